@@ -1,17 +1,21 @@
+import java.util.concurrent.Callable;
+
 /** What the tests share: each wrong answer is printed, and the test ends with 1 if there was one. */
 final class Check {
     private static int looked = 0;
     private static int wrong = 0;
+    private static String sentence = "";
 
     private Check() {
     }
 
+    /** The answers from here on are due because of this sentence of the document. */
+    static void sentence(String words) {
+        sentence = "\"" + words + "\": ";
+    }
+
     static void due(String what, long got, long want) {
-        looked++;
-        if (got != want) {
-            wrong++;
-            System.out.println(what + " answered " + got + ", due is " + want);
-        }
+        due(what, Long.toString(got), Long.toString(want));
     }
 
     static void due(String what, boolean got, boolean want) {
@@ -22,7 +26,7 @@ final class Check {
         looked++;
         if (!got.equals(want)) {
             wrong++;
-            System.out.println(what + " answered " + got + ", due is " + want);
+            System.out.println(sentence + what + " answered " + got + ", due is " + want);
         }
     }
 
@@ -49,10 +53,20 @@ final class Check {
         System.out.println(looked + " answers, all as due");
     }
 
+    /** What a call answers, as a text; of one that throws, the exception's own class. */
+    static String answer(Callable<?> call) {
+        try {
+            return String.valueOf(call.call());
+        } catch (Exception e) {
+            return "throws " + e.getClass().getSimpleName();
+        }
+    }
+
     /** The bytes told last, as a text. */
     static String bytes(DrawingForms d) {
         StringBuilder text = new StringBuilder();
-        for (int i = 0; i < d.told(2); i++) {
+        int count = d.told(2);
+        for (int i = 0; i < count; i++) {
             text.append(i == 0 ? "" : " ").append(d.byteAt(i));
         }
         return text.toString();
@@ -67,16 +81,45 @@ final class Check {
         return text.toString();
     }
 
+    /** All parts of the latest encode(), a part behind a slash. */
+    static String parts(DrawingForms d) {
+        return partsFrom(d, 0);
+    }
+
+    static String partsFrom(DrawingForms d, int first) {
+        StringBuilder text = new StringBuilder();
+        int count = d.parts();
+        for (int k = first; k < count; k++) {
+            text.append(k == first ? "" : " / ").append(part(d, k));
+        }
+        return text.toString();
+    }
+
     /** The picture's values, a row behind a slash. */
     static String picture(DrawingForms d) {
         StringBuilder text = new StringBuilder();
-        for (int y = 0; y < d.told(1); y++) {
+        int width = d.told(0);
+        int height = d.told(1);
+        for (int y = 0; y < height; y++) {
             text.append(y == 0 ? "" : " / ");
-            for (int x = 0; x < d.told(0); x++) {
+            for (int x = 0; x < width; x++) {
                 text.append(x == 0 ? "" : " ").append(d.at(x, y));
             }
         }
         return text.toString();
+    }
+
+    /** A new object whose picture has these rows: a digit is a value, a dot is 0. */
+    static DrawingForms sketched(String... rows) {
+        DrawingForms d = new DrawingForms(rows[0].length(), rows.length);
+        for (int y = 0; y < rows.length; y++) {
+            for (int x = 0; x < rows[y].length(); x++) {
+                if (rows[y].charAt(x) != '.') {
+                    d.put(x, y, rows[y].charAt(x) - '0');
+                }
+            }
+        }
+        return d;
     }
 
     /** A new object whose picture has these rows. */
@@ -98,5 +141,19 @@ final class Check {
         for (int b : bytes) {
             d.feed(b);
         }
+    }
+
+    /**
+     * A new object of 18 by 19 with so many times 400 bytes to be read: as many as are told by
+     * change() when every sample differs. Ten times are the 4000 that there may be.
+     */
+    static DrawingForms filled(int times) {
+        DrawingForms d = new DrawingForms(18, 19);
+        d.box(0, 0, 18, 19, 1);
+        due("change() of all samples", d.change(), 400);
+        for (int i = 1; i <= times; i++) {
+            due("pass() for the time " + i, d.pass(), 400 * i);
+        }
+        return d;
     }
 }
