@@ -31,6 +31,7 @@ public final class TellingEdgesTest {
         encodeLeavesAllElse();
         byteAtNeedsAByte();
         byteAtIsOfWhatWasToldLast();
+        bytesOfFewerPartsThanBefore();
         partsAreOfTheLatestEncode();
         partNeedsAPart();
         partNeedsAThing();
@@ -411,6 +412,18 @@ public final class TellingEdgesTest {
         Check.due("then swap()", Check.bytes(d), "0 1 0 0");
         d.change();
         Check.due("then change()", Check.bytes(d), "0 0 1 1 255");
+    }
+
+    private static void bytesOfFewerPartsThanBefore() {
+        Check.sentence("Promise 8: A byte of what was told last");
+        DrawingForms d = Check.sketched("1.2....", "3......", ".......");
+        Check.due("three parts", bytesOf(d), "1 0 3 0 0 1 1 3 2 0 1 2 3 0 1 1 3 0");
+        d.put(0, 1, 0);
+        Check.due("two parts", bytesOf(d), "1 0 3 0 0 1 1 3 2 0 1 2 0");
+        d.put(0, 0, 0);
+        Check.due("one part", bytesOf(d), "1 0 3 2 0 1 2 0");
+        d.put(2, 0, 0);
+        Check.due("no part", bytesOf(d), "1 0 0");
     }
 
     private static void partsAreOfTheLatestEncode() {
